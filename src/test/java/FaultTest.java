@@ -216,6 +216,9 @@ public final class FaultTest {
         due(0, "lesson a 1; lesson b 1 a; lesson c 1 a b;");
         due(0, "end abcdefga 1; end abcdefgb 1; end abcdefg 1; end bcdefga 1;");
         due(0, "end e 1; turn t 0 e 1 e 1 e 1;");
+        due(0, "end a 1; end aa 1; end aaa 1; end b 1; end bb 1; end ab 1; end ba 1; end z 1; end zz 1; end az 1; end za 1;");
+        due(0, "man y 1 1; man yz 1 1; man zy 1 1; man ya 1 1; man aya 1 1; man aaaaaaaa 1 1; court zzzzzzzz 1; "
+            + "court zzzzzzz 1; court azzzzzzz 1; court aaaaaaa 1;");
         due(NAME, "turn t 0 @t 1;");
         due(NAME, "turn t 0 @e 1; end e 1;");
         due(NAME, "man m 1 1; turn t 0 @m 1;");

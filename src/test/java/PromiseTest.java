@@ -378,6 +378,16 @@ public final class PromiseTest {
         due("make(0)", y.make(0), 0);
         due("seen already: 0, but lost and failed", y.man(0, 6), 1);
         due("man(1, 6)", y.man(1, 6), 0);
+        // SIDE 1's MOVE is looked at by SIDE 0's MAN, whatever the AIMS and numbers are
+        SchoolLosing z = Texts.school("end a 1; turn s 1 a 1; turn t 1 s 1; man m 0 3; man n 0 5; man o 0 7; sees = eye - 5;");
+        for (int aim = 0; aim < 3; aim++) {
+            for (int man = 0; man < 3; man++) {
+                z.begin(2, man, man == 0 ? 1 : 0, aim, 2 - aim);
+                z.make(0);
+                due("eye of " + man, z.game(6), man == 2 ? 1 : 0);
+                due("game(5)", z.game(5), 0);
+            }
+        }
     }
 
     private static void learn() {
@@ -508,6 +518,8 @@ public final class PromiseTest {
         due("not seen by 0", x.surely(4, 0, 1, 0, 2), 1);
         due("l from r shows 0", x.surely(6, 0, 1, 0, 1), 1);
         due("what the other one shows does not matter", x.surely(4, 1, 3, 1, 3), 0);
+        due("k 9", x.surely(6, 0, 9, 0, NONE), 0);
+        due("k 9", Texts.school("end e 9;").surely(0, 1, 9, 0, NONE), 1);
         due("k 10", x.surely(6, 0, 10, 0, NONE), NONE);
         due("k -1", x.surely(6, 0, -1, 0, NONE), NONE);
         due("side 2", x.surely(6, 2, 1, 0, NONE), NONE);
@@ -753,6 +765,10 @@ public final class PromiseTest {
         due("10 less", Texts.school("pays = 10 - margin * 3;").fine(), 3);
         due("one of 99 more", Texts.school("pays = if margin < 5 then 0 else 99;").fine(), 99);
         due("one of 100 more", Texts.school("pays = if margin < 5 then 0 else 100;").fine(), -2);
+        due("9 told as 8", Texts.school("pays = if margin < 9 then 5 else 0;").fine(), 5);
+        due("0 told as 1", Texts.school("pays = if 0 < margin then 6 else 0;").fine(), 6);
+        due("8 told as 9", Texts.school("pays = if 8 < margin then 7 else 0;").fine(), 7);
+        due("1 told as 0", Texts.school("pays = if margin < 1 then 8 else 0;").fine(), 8);
         due("a half is not enough", Texts.school("pays = margin / 2;").fine(), 1);
         due("-27 and 50", Texts.school("pays = if 8 < margin then 50 else 45 - margin * 9;").fine(), 77);
         due("more than 32 bits apart", Texts.school(
@@ -800,6 +816,8 @@ public final class PromiseTest {
         String deepest = "1+1*(2+1*(3+1*(4+1*(5+1*(6+1*(7+1*8))))))";
         due("six within one another", law(deepest, 0), 36);
         due("likewise in an if", law("if " + deepest + " < " + deepest + " + 1 then " + deepest + " else 0", 0), 36);
+        due("400 TOKENS", law("1+".repeat(198) + "1", 0), 199);
+        due("400 TOKENS, two LAWS", Texts.school("sees=" + "1+".repeat(96) + "1;pays=" + "2+".repeat(98) + "2;").pays(0), 198);
         promise = 13;
         SchoolLosing x = Texts.school("man m 3 9; lesson l 7; learns = 50 + shows + eye + pride + margin + seen;");
         due("others are 0", x.learn(0, 0), 50);

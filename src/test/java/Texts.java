@@ -67,7 +67,7 @@ final class Texts {
         }
         for (String law : new String[] {"sees", "learns", "suits", "pays", "sees", "pays"}) {
             if (random.nextInt(3) > 0) {
-                tells.add(law + " = " + law(random) + ";");
+                tells.add(law + " = " + (random.nextBoolean() ? plainLaw(random, law) : law(random)) + ";");
             }
         }
         for (String tell : tells) {
@@ -130,6 +130,23 @@ final class Texts {
 
     private static String name(int i) {
         return String.valueOf((char) ('a' + i));
+    }
+
+    /** A LAW by all that is told for it, whose answers lie about the limits. */
+    private static String plainLaw(Random random, String law) {
+        switch (law) {
+            case "sees":
+                return "shows * " + random.nextInt(3) + " + eye - skill + seen * " + random.nextInt(4) + " - "
+                    + random.nextInt(9);
+            case "learns":
+                return "hours - had * " + random.nextInt(9) + " + which * " + random.nextInt(9) + " - skill * "
+                    + random.nextInt(4);
+            case "suits":
+                return "skill * " + random.nextInt(9) + " + eye * " + random.nextInt(5) + " - pride * "
+                    + random.nextInt(9);
+            default:
+                return "margin * " + random.nextInt(20) + " - margin * margin * " + random.nextInt(4);
+        }
     }
 
     static String law(Random random) {
