@@ -10,7 +10,57 @@ final class Texts {
     private static final String[] VARS =
         {"shows", "eye", "skill", "hours", "had", "which", "pride", "margin", "seen"};
 
+    /**
+     * As many of each sort as there may be: ENDS 0 .. 3, TURNS 4 .. 13 with three MOVES each, 6 MEN, 6 LESSONS that
+     * need no others, 5 COURTS, 4 DICE all alike.
+     */
+    static final String FULL = full();
+
     private Texts() {
+    }
+
+    private static String full() {
+        StringBuilder text = new StringBuilder("end ea 9; end eb - 9; end ec 0; end ed - 1; ");
+        for (int i = 0; i < 10; i++) {
+            text.append("turn t").append(name(i)).append(' ').append(i % 2).append(" ea 0 ")
+                .append(i == 0 ? "eb" : "ta").append(" 9 ed 5; ");
+        }
+        for (int i = 0; i < 6; i++) {
+            text.append("man m").append(name(i)).append(' ').append(2 * i).append(' ').append(i).append("; ");
+            text.append("lesson l").append(name(i)).append(' ').append(1 + i).append("; ");
+        }
+        for (int i = 0; i < 5; i++) {
+            text.append("court c").append(name(i)).append(' ').append(i).append("; ");
+        }
+        for (int i = 0; i < 4; i++) {
+            text.append("die d").append(name(i)).append(" 0 1 2 3 4 9; ");
+        }
+        return text.toString();
+    }
+
+    /** All that can be seen of what goes on, of what is told and held, and of the tape. */
+    static String picture(SchoolLosing school) {
+        StringBuilder picture = new StringBuilder("place " + school.place() + " count");
+        for (int what = 0; what <= 10; what++) {
+            picture.append(' ').append(school.count(what));
+        }
+        return picture.append(goesOn(school)).toString();
+    }
+
+    /** All that goes on: what undo(), hold() and restore() are about. */
+    static String goesOn(SchoolLosing school) {
+        StringBuilder picture = new StringBuilder(" steps " + school.count(5) + " over " + school.count(6) + " game");
+        for (int what = 0; what < 7; what++) {
+            picture.append(' ').append(school.game(what));
+        }
+        int men = school.count(1);
+        for (int man = 0; man < men; man++) {
+            picture.append(" man ").append(man);
+            for (int what = 0; what < 8; what++) {
+                picture.append(' ').append(school.man(man, what));
+            }
+        }
+        return picture.toString();
     }
 
     /** The arguments of the feed() calls that bring the text, blanks behind it. */
@@ -33,7 +83,7 @@ final class Texts {
         return (20 - text.length() % 20) % 20;
     }
 
-    /** A text up to 1,980 bytes long (2,000 if 20 goes into its length) is fed and read. */
+    /** A text of up to 2,000 bytes is fed and read. */
     static int read(SchoolLosing school, String text) {
         for (int[] f : feeds(text)) {
             school.feed(f[0], f[1], f[2], f[3], f[4]);
