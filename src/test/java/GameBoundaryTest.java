@@ -30,8 +30,10 @@ public final class GameBoundaryTest {
         game();
         begin();
         steps();
+        stepsByAims();
         stepsByLot();
         lostAndFailed();
+        seenInGames();
         make();
         learn();
         hoursOfLearning();
@@ -208,6 +210,12 @@ public final class GameBoundaryTest {
         DUES.due("game(5)", y.game(5), 1);
         y.begin(5, 0, 1, 0, 0);
         DUES.due("nothing SEEN in the new one", y.game(5), 0);
+        SchoolLosing z = Texts.school("end a - 1;turn s 0 a 1;turn t 1 s 1;man m 0 0;man n 0 0;sees=1;");
+        z.begin(2, 0, 1, 0, 0);
+        z.make(0);
+        DUES.due("game(6)", z.game(6), 1);
+        z.begin(2, 0, 1, 0, 0);
+        DUES.due("nothing SEEN of SIDE 1's in the new one", z.game(6), 0);
         y.begin(1, 1, 0, 0, 0);
         y.make(0);
         DUES.due("he was not FAILED by what was SEEN in the other one", y.man(0, 6), 0);
@@ -248,6 +256,44 @@ public final class GameBoundaryTest {
             DUES.due("steps(5) with " + n + " left", x.steps(5), n);
         }
         DUES.due("count(5)", x.count(5), 25);
+        DUES.by(11, "n STEPS: a thing done");
+        for (int n = 1; n <= 5; n++) {
+            SchoolLosing y = Texts.school(DEEP);
+            y.begin(5, 0, 1, 0, 0);
+            y.steps(n);
+            DUES.due("count(8) behind steps(" + n + ")", y.count(8), 2);
+            y.undo();
+            DUES.due("game(0)", y.game(0), 5);
+        }
+    }
+
+    /** ENDS 3, 0, -1, -3 at 0 .. 3; TURN 4 is SIDE 1's, 5 SIDE 0's. */
+    private static final String AIMS = "end a 3;end b 0;end c - 1;end d - 3;turn t 1 a 0 c 0 b 0;turn u 0 t 0 d 0;"
+        + "man m 10 0;man n 10 0;";
+
+    /** By AIMS 00, 01, 02, 10, .. 22 the margins from TURNS 4 and 5. */
+    private static final int[][] BY_AIMS = {{-1, -1}, {3, 3}, {0, 0}, {-1, -3}, {3, -3}, {0, -3}, {-1, -1}, {3, -3}, {0, 0}};
+
+    private static void stepsByAims() {
+        for (int aims = 0; aims < 9; aims++) {
+            int aim = aims / 3;
+            int otherAim = aims % 3;
+            for (int turn = 4; turn <= 5; turn++) {
+                SchoolLosing x = Texts.school(AIMS);
+                int want = BY_AIMS[aims][turn - 4];
+                DUES.by(11, "takes the MOVE BY WANT");
+                x.begin(turn, 0, 1, aim, otherAim);
+                x.steps(5);
+                DUES.due("AIMS " + aim + otherAim + " at " + turn, x.man(0, 4), want);
+                DUES.by(15, "The margin (SIDE 0's) BY WANT");
+                DUES.due("AIMS " + aim + otherAim + " at " + turn, x.want(turn, aim, otherAim), want);
+                DUES.by(21, "aims: 10 * SIDE 0's + the other one's");
+                DUES.due("AIMS " + aim + otherAim + " at " + turn,
+                    x.likely(turn, 0, 1, 10 * aim + otherAim, want, false), 1);
+                DUES.by(22, "likewise");
+                DUES.due("AIMS " + aim + otherAim + " at " + turn, x.most(turn, 0, 1, 10 * aim + otherAim), want);
+            }
+        }
     }
 
     /** The MOVE BY WANT if LOT 10 is less than the SKILL: of SKILLS, the one that is as great as LOT 10 slips. */
@@ -307,6 +353,26 @@ public final class GameBoundaryTest {
                             want[man][what - 4]);
                     }
                 }
+            }
+        }
+    }
+
+    /** SIDE 1, SIDE 0, SIDE 1, SIDE 0, SIDE 1 move; m's EYE is 2, n's 5. */
+    private static void seenInGames() {
+        String text = "end a - 1;turn b 1 a 0;turn c 0 b 0;turn d 1 c 0;turn e 0 d 0;turn f 1 e 0;man m 3 2;man n 4 5;";
+        DUES.by(12, "SEEN: eye: the other one's; skill: of who moves; seen: how many MOVES of his were SEEN");
+        String[] laws = {"eye-4", "5-eye", "skill-3", "4-skill", "1-seen", "2-seen", "seen", "if seen<1 then eye-4 else 1"};
+        int[][] want = {{2, 0}, {0, 2}, {0, 2}, {2, 0}, {1, 1}, {2, 2}, {0, 0}, {2, 0}};
+        int[][] turned = {{0, 2}, {2, 0}, {2, 0}, {0, 2}, {1, 1}, {2, 2}, {0, 0}, {0, 2}};
+        for (int i = 0; i < laws.length; i++) {
+            SchoolLosing x = Texts.school(text + "sees=" + laws[i] + ";");
+            for (int one = 0; one < 2; one++) {
+                x.begin(5, one, 1 - one, 0, 1);
+                for (int made = 0; made < 4; made++) {
+                    x.make(0);
+                }
+                DUES.due(laws[i] + ", SIDE 0's", x.game(5), one == 0 ? want[i][0] : turned[i][0]);
+                DUES.due(laws[i] + ", SIDE 1's", x.game(6), one == 0 ? want[i][1] : turned[i][1]);
             }
         }
     }
@@ -575,6 +641,8 @@ public final class GameBoundaryTest {
             DUES.due("his own may not", x.surely(7, 1, 1, 1 - eye, eye), 0);
             DUES.due("an END has no MOVES", x.surely(1, 0, 9, 1 - eye, eye), 1);
         }
+        SchoolLosing zero = Texts.school("end a 0;turn t 1 a 0 a 9 a 0;");
+        DUES.due("0 whatever the other one does", zero.surely(1, 0, 0, 0, NONE), 1);
         SchoolLosing all = Texts.school("end a - 1;turn t 0 a 0 a 9;man m 0 0;sees=1;");
         DUES.due("all are SEEN", all.surely(1, 0, 1, 0, 0), 0);
         DUES.due("but without an eye", all.surely(1, 0, 1, 0, NONE), 1);
@@ -583,6 +651,8 @@ public final class GameBoundaryTest {
         DUES.due("five of his own", y.surely(5, 0, 9, 0, 1), 1);
         SchoolLosing z = Texts.school(DEEP + "sees=1-seen;");
         DUES.due("five of his own", z.surely(5, 0, 9, 0, 1), 0);
+        SchoolLosing less = Texts.school(DEEP + "sees=0-seen;");
+        DUES.due("five of his own", less.surely(5, 0, 9, 0, 1), 1);
         DUES.by(17, "as another MAN with his SKILL plays it");
         SchoolLosing skill = Texts.school(SURE + "sees=5-skill;lesson a 1;lesson b 1;");
         DUES.due("a SKILL of 3", skill.surely(4, 0, 9, 0, 1), 0);
@@ -641,6 +711,11 @@ public final class GameBoundaryTest {
         DUES.due("an END", x.seen(0, 0, 0, 1, 5), NONE);
         DUES.due("move 1 of one", x.seen(1, 1, 0, 1, 5), NONE);
         DUES.due("eye NONE is no MAN", x.seen(1, 0, 0, NONE, 5), NONE);
+        DUES.by(19, "Whether a MOVE would be SEEN: shows: the MOVE's");
+        SchoolLosing moves = Texts.school(MOVES + "sees=shows-4;");
+        for (int move = 0; move < 3; move++) {
+            DUES.due("MOVE " + move + " of three", moves.seen(3, move, 0, 1, 0), move == 0 ? 0 : 1);
+        }
         DUES.by(19, "made by another one (or the same)");
         SchoolLosing y = Texts.school(DEEP);
         DUES.due("by m, n looks", y.seen(1, 0, 0, 1, 0), 1);
@@ -687,6 +762,13 @@ public final class GameBoundaryTest {
             x.undo();
         }
         DUES.due("all undone", x.cup(false), -2);
+        SchoolLosing six = Texts.school(Texts.FULL + "sees=1;");
+        DUES.due("six MEN, nobody has", six.cup(false), -2);
+        DUES.due("six MEN, nobody was", six.cup(true), -2);
+        six.begin(4, 5, 0, 0, 0);
+        six.make(1);
+        DUES.due("the 6th MAN", six.cup(false), 5);
+        DUES.due("the 6th MAN", six.cup(true), 5);
     }
 
     /** TURNS 2 .. 6, 1 to 5 deep: a slip, and another one, and so on, ends with -9; all else with 9. */
@@ -700,6 +782,8 @@ public final class GameBoundaryTest {
             24300000);
         DUES.fraction("all else", x.likely(6, 0, 1, 0, 9, false), x.likely(6, 0, 1, 0, 9, true), 24283193, 24300000);
         DUES.fraction("five slips of SKILL 0", x.likely(6, 1, 0, 0, -9, false), x.likely(6, 1, 0, 0, -9, true), 1, 243);
+        SchoolLosing only = Texts.school("end a 9;turn t 0 a 0;turn u 1 t 0;man m 3 0;man n 0 0;");
+        DUES.fraction("only one MOVE each", only.likely(2, 0, 1, 0, 9, false), only.likely(2, 0, 1, 0, 9, true), 1, 1);
         DUES.fraction("one slip of SKILL 1", x.likely(2, 3, 0, 0, -9, false), x.likely(2, 3, 0, 0, -9, true), 3, 10);
         DUES.by(21, "as a fraction that cannot be lessened (0 by 1)");
         DUES.fraction("SKILL 10 never slips", x.likely(6, 2, 0, 0, -9, false), x.likely(6, 2, 0, 0, -9, true), 0, 1);
@@ -736,6 +820,10 @@ public final class GameBoundaryTest {
         DUES.due("-9 by a little", x.most(3, 1, 0, 10), -9);
         DUES.due("9 surely", x.most(3, 2, 0, 0), 9);
         DUES.due("SIDE 1 to lose: 9 by a little", x.most(4, 0, 1, 1), 9);
+        for (int margin = -9; margin <= 9; margin++) {
+            SchoolLosing end = Texts.school("end a " + (margin < 0 ? "- " : "") + Math.abs(margin) + ";man m 0 0;");
+            DUES.due("an END of " + margin, end.most(0, 0, 0, 0), margin);
+        }
         DUES.due("an END", x.most(0, 0, 0, 22), 9);
         DUES.due("an END", x.most(1, 0, 0, 22), -9);
         DUES.by(22, "-100: no such ones");

@@ -119,6 +119,15 @@ public final class SchoolBoundaryTest {
         for (int i = 0; i < laws.length; i++) {
             DUES.due(laws[i], Texts.school(SIX_MEN + FIVE_COURTS + "suits=" + laws[i] + ";").courts(NONE), want[i]);
         }
+        DUES.by(24, "COURTS: another MAN for each; what LESSONS need has no part in it");
+        SchoolLosing both = Texts.school("man m 5 0;man n 4 0;court a 0;lesson l 1;lesson k 1 l;");
+        DUES.due("order(1)", both.order(1), 1);
+        DUES.due("courts(0)", both.courts(0), 0);
+        SchoolLosing other = Texts.school("man m 4 0;man n 5 0;court a 0;lesson l 1;lesson k 1 l;");
+        DUES.due("order(1)", other.order(1), 1);
+        DUES.due("courts(0)", other.courts(0), 1);
+        DUES.due("order(NONE)", other.order(NONE), 2);
+        DUES.due("courts(NONE)", other.courts(NONE), 5);
         DUES.by(24, "skill, eye: the MAN's now, pride: the COURT's");
         SchoolLosing x = Texts.school("man m 9 9;court a 9;lesson l 1;lesson k 1;suits=skill*8+eye+pride;");
         DUES.due("9 * 8 + 9 + 9", x.courts(NONE), 90);
@@ -311,6 +320,37 @@ public final class SchoolBoundaryTest {
         DUES.by(29, "a VAR not told for a LAW is 0 in it");
         duePays("1+shows+eye+skill+hours+had+which+pride+seen", 1);
         duePays("1/shows", 0);
+        // each LAW is looked at behind the others, with their VARS
+        SchoolLosing x = Texts.school("end e 7;turn t 0 e 5;man m 3 9;lesson l 7;lesson k 7;court c 8;"
+            + "sees=hours+had+which+pride+margin;learns=50+shows+eye+pride+margin+seen;"
+            + "suits=60+shows+hours+had+which+margin+seen;pays=70+shows+eye+skill+hours+had+which+pride+seen;");
+        for (int i = 0; i < 2; i++) {
+            DUES.by(29, "a VAR not told for a LAW is 0 in it");
+            DUES.due("pays(9)", x.pays(9), 70);
+            DUES.by(19, "a VAR not told for a LAW is 0 in it");
+            DUES.due("seen", x.seen(1, 0, 0, 0, 9), 0);
+            DUES.by(24, "a VAR not told for a LAW is 0 in it");
+            DUES.due("courts(NONE)", x.courts(NONE), 60);
+            DUES.by(23, "a VAR not told for a LAW is 0 in it");
+            DUES.due("order(NONE)", x.order(NONE), 100);
+            DUES.by(19, "a VAR not told for a LAW is 0 in it");
+            DUES.due("seen", x.seen(1, 0, 0, 0, 9), 0);
+            DUES.by(13, "a VAR not told for a LAW is 0 in it");
+            x.pays(9);
+            x.courts(NONE);
+            DUES.due("learn", x.learn(0, i), 50);
+        }
+        SchoolLosing y = Texts.school("end e 7;turn t 0 e 5;man m 3 9;man n 3 9;court c 8;"
+            + "sees=pride;suits=pride+shows*100+seen;");
+        y.seen(1, 0, 0, 1, 9);
+        DUES.by(19, "a VAR not told for a LAW is 0 in it");
+        SchoolLosing z = Texts.school("end e 7;turn t 0 e 5;man m 3 9;sees=0-hours-had-which-pride-margin;");
+        DUES.due("seen", z.seen(1, 0, 0, 0, 9), 0);
+        DUES.by(24, "a VAR not told for a LAW is 0 in it");
+        DUES.due("courts(NONE)", y.courts(NONE), 8);
+        DUES.by(29, "PART: UNIT {('*' | '/') UNIT}");
+        duePays("9-2*3", 3);
+        duePays("9-8/3-1", 6);
     }
 
     private static void wrapping() {
@@ -443,6 +483,21 @@ public final class SchoolBoundaryTest {
         x.forget();
         x.tell(1, 4, 0);
         DUES.fraction("an only MOVE tells nothing", x.meant(1, 1, false), x.meant(1, 1, true), 1, 2);
+        x.tell(2, 4, 0);
+        DUES.fraction("nor one of SKILL 0", x.meant(2, 2, false), x.meant(2, 2, true), 1, 2);
+        DUES.by(32, "the other one wanting to win");
+        // at t SIDE 1, who wants to win, takes - 2: so at v one who wants to win takes a, one who wants to lose t
+        SchoolLosing y = Texts.school("end a - 1;end b 9;end c - 2;turn t 1 b 0 c 0;turn v 0 t 0 a 0;"
+            + "turn w 1 v 0 a 0;man n 10 0;");
+        y.tell(0, 4, 0);
+        DUES.fraction("he wanted to lose", y.meant(0, 1, false), y.meant(0, 1, true), 1, 1);
+        y.forget();
+        y.tell(0, 4, 1);
+        DUES.fraction("he wanted to win", y.meant(0, 1, false), y.meant(0, 1, true), 0, 1);
+        y.forget();
+        // at w, as SIDE 1, to win both are alike, to lose v is better: the first MOVE by both AIMS
+        y.tell(0, 5, 0);
+        DUES.fraction("either", y.meant(0, 1, false), y.meant(0, 1, true), 1, 2);
     }
 
     private static void set() {
@@ -454,6 +509,11 @@ public final class SchoolBoundaryTest {
         DUES.by(33, "lie farthest apart; of alike ones the first");
         DUES.due("18 apart, the first of two", Texts.school("end a 9;end b - 9;turn t 0 a 0 b 0;turn u 1 b 0 a 0;").set(), 2);
         DUES.due("18 apart behind 17", Texts.school("end a 9;end b - 9;end c 8;turn t 0 c 0 b 0;turn u 1 b 0 a 0;").set(), 4);
+        // SIDE 1 at t wants to win: v is - 1 and - 2, 1 apart; t is - 2 and 9, 11 apart
+        DUES.due("the other one wanting to win", Texts.school("end a - 1;end b 9;end c - 2;turn t 1 b 0 c 0;"
+            + "turn v 0 t 0 a 0;").set(), 3);
+        DUES.due("the other one wanting to win: 1 apart, then 2", Texts.school("end a - 1;end b - 2;end c - 2;turn t 1 b 0 c 0;"
+            + "turn v 0 t 0 a 0;end d 0;turn w 0 d 0 c 0;").set(), 6);
         DUES.due("1 apart", Texts.school("end a 9;end b 8;turn t 1 a 0 b 0;").set(), 2);
         DUES.due("the 14th", Texts.school("end a 0;end b 1;end c 3;end d 3;end e 3;end f 3;end g 3;end h 3;end i 3;end j 3;"
             + "end k 3;end l 3;turn t 0 a 0 b 0;turn u 0 a 0 c 0;").set(), 13);

@@ -53,6 +53,8 @@ public final class TextBoundaryTest {
         noSuchName();
         changesNothing();
         inPlaceOfTheOneAhead();
+        nothingStaysOfTheOneAhead();
+        nothingStaysOfFaultyOnes();
         DUES.needs(1, 5);
         DUES.end();
     }
@@ -69,13 +71,18 @@ public final class TextBoundaryTest {
         faultAt(number, at, at < 0 ? marked : marked.substring(0, at) + marked.substring(at + 1));
     }
 
+    /** On a new object, and on one that has read other texts. */
     private static void faultAt(int number, int at, String text) {
-        SchoolLosing school = new SchoolLosing();
+        SchoolLosing used = new SchoolLosing();
+        Texts.read(used, Texts.FULL);
+        Texts.read(used, Texts.FULL);
         String shown = text.length() > 90 ? ".. " + text.substring(text.length() - 90) : text;
-        DUES.by(4, sentence);
-        DUES.due("read() of " + shown, Texts.read(school, text), number);
-        DUES.by(5, sentence);
-        DUES.due("place() of " + shown, school.place(), at);
+        for (SchoolLosing school : new SchoolLosing[] {new SchoolLosing(), used}) {
+            DUES.by(4, sentence);
+            DUES.due("read() of " + shown, Texts.read(school, text), number);
+            DUES.by(5, sentence);
+            DUES.due("place() of " + shown, school.place(), at);
+        }
     }
 
     private static SchoolLosing good(String text) {
@@ -378,6 +385,14 @@ public final class TextBoundaryTest {
             fault(SYNTAX, text + "@");
         }
         fault(SYNTAX, "end e 1;turn t 0 e 1 e@;");
+        by("UNIT: INT | VAR | '(' E ')'.");
+        fault(SYNTAX, "pays=1@);");
+        fault(SYNTAX, "pays=(1)@);");
+        fault(SYNTAX, "pays=((1)@;");
+        fault(SYNTAX, "pays=(@);");
+        fault(SYNTAX, "pays=(1+@);");
+        fault(SYNTAX, "pays=if (1@<2) then 3 else 4;");
+        fault(SYNTAX, "pays=if 1<2 then (3 @else 4);");
         by("text: {TELL}.");
         fault(0, "");
         fault(0, " ");
@@ -407,6 +422,18 @@ public final class TextBoundaryTest {
         for (int sort = 0; sort < SORTS.length; sort++) {
             fault(ROOM, Texts.FULL + " @" + SORTS[sort].replace("%", "x"));
         }
+        by("NAMES of all sorts, as many as there may be");
+        String all = "end na 1;" + several("man % 1 1;", 6).replace("man n", "man m")
+            + several("court % 1;", 5).replace("court n", "court c")
+            + several("die % 1 1 1 1 1 1;", 4).replace("die n", "die d")
+            + several("lesson % 1;", 5).replace("lesson n", "lesson l") + several("end % 1;", 12).replace("end n", "end e");
+        fault(0, all + "lesson lf 1 la le;turn t 0 na 1 el 1;");
+        fault(0, all + "turn t 0 na 1 el 1;lesson lf 1 la le;");
+        for (String name : new String[] {"na", "ma", "mf", "ca", "ce", "da", "dd", "la", "le", "ea", "el", "lf"}) {
+            fault(TWICE, all + "lesson lf 1 la le;turn @" + name + " 0 na 1;");
+        }
+        fault(NAME, all + "lesson lf 1 la le;turn t 0 na 1 @t 1;");
+        by("one more of a sort than told (at its first TOKEN)");
         fault(0, Texts.FULL + "seed 1;seed 2;sees=1;sees=2;learns=1;learns=2;suits=1;suits=2;pays=1;pays=2;");
     }
 
@@ -433,6 +460,9 @@ public final class TextBoundaryTest {
         by("(at the NAME of a TURN) no MOVES");
         fault(WRONG, "end e 1;turn @t 0;");
         fault(WRONG, "end e 1;turn @t 1;end f 1;");
+        for (int ends = 0; ends <= 13; ends++) {
+            fault(WRONG, several("end % 1;", ends) + "turn @t 0;");
+        }
         by("MOVES, 1 to 3");
         for (int many = 1; many <= 3; many++) {
             DUES.due("MOVES", good("end e 1;turn t 0" + " e 1".repeat(many) + ";").position(1, 2), many);
@@ -608,7 +638,9 @@ public final class TextBoundaryTest {
         by("an end behind 400 TOKENS is none of them");
         fault(SYNTAX, seeds + "man m 1 1@");
         fault(SYNTAX, seeds + "end e - 1  @");
-        fault(0, "pays=" + "1+".repeat(198) + "1;");
+        pays("1+".repeat(198) + "1", 199);
+        pays("1*".repeat(198) + "7", 7);
+        DUES.due("two LAWS of 200 TOKENS", good("sees=" + "1+".repeat(98) + "1;pays=" + "2+".repeat(98) + "2;").pays(0), 198);
         fault(SYNTAX, "pays=" + "1+".repeat(198) + "1+@;");
         fault(ROOM, "pays=" + "1+".repeat(198) + "1+@1;");
     }
@@ -633,6 +665,11 @@ public final class TextBoundaryTest {
         pays("if " + open + "1" + close + "<" + open + "2" + close + " then " + open + "3" + close + " else " + open
             + "4" + close, 3);
         pays("((((1))+((2))))*((((((3))))))-((4))", 5);
+        String deepest = "1+2*(1+2*(1+2*(1+2*(1+2*(1+2*(1+2*3))))))";
+        pays(deepest, 511);
+        String anIfOfDeepest = "if " + deepest + "<" + deepest + " then " + deepest + " else ";
+        pays(anIfOfDeepest.repeat(2) + deepest, 511);
+        pays("if 2<1 then 0 else ".repeat(3) + "if " + deepest + "<1+" + deepest + " then 1+" + deepest + " else 0", 512);
         fault(ROOM, "pays=" + open + "@(5" + close + ");");
         fault(ROOM, "pays=" + open + "@(");
         fault(ROOM, "pays=1+" + open + "1*@(5" + close + ");");
@@ -731,7 +768,9 @@ public final class TextBoundaryTest {
         x.begin(2, 1, 0, 0, 1);
         x.make(0);
         x.tell(0, 1, 0);
-        x.hold(2);
+        for (int slot = 0; slot < 3; slot++) {
+            x.hold(slot);
+        }
         return x;
     }
 
@@ -778,5 +817,78 @@ public final class TextBoundaryTest {
                 DUES.due("cup", x.cup(false), -2);
             }
         }
+    }
+
+    /** As an object on which nothing else was read. */
+    private static void dueAsNew(SchoolLosing x, String text) {
+        DUES.due("read() of " + text, Texts.read(x, text), 0);
+        DUES.due("what is told by " + text, Texts.toldBy(x), Texts.toldBy(good(text)));
+    }
+
+    private static void nothingStaysOfTheOneAhead() {
+        by("else it is in place of the one ahead");
+        String laws = "sees=shows+eye;learns=hours-had;suits=skill+eye;pays=margin*2;seed 77;";
+        String turned = "end ea 1;turn ta 0 ea 1;end eb 2;turn tb 1 eb 1 ta 2;end ec - 3;turn tc 1 ea 4;man m 3 4;"
+            + "lesson la 9;lesson lb 8 la;lesson lc 7 la lb;court ca 3;die da 6 5 4 3 2 1;";
+        String[] texts = {Texts.FULL + laws, turned, CHAIN, "", "man m 1 1;", "lesson l 5;lesson k 5 l;man m 2 2;",
+            "court c 5;man m 2 2;man n 3 3;", turned + laws};
+        for (String one : texts) {
+            for (String other : texts) {
+                SchoolLosing x = new SchoolLosing();
+                Texts.read(x, one);
+                x.order(NONE);
+                x.courts(NONE);
+                dueAsNew(x, other);
+            }
+        }
+        // two ahead
+        for (String other : texts) {
+            SchoolLosing x = new SchoolLosing();
+            Texts.read(x, Texts.FULL + laws);
+            Texts.read(x, "end e 1;");
+            dueAsNew(x, other);
+        }
+        by("nothing stays: the LAWS of many texts");
+        SchoolLosing many = new SchoolLosing();
+        for (int i = 0; i < 99; i++) {
+            Texts.read(many, "pays=1+1+1+1+1+1+1+1+1+1+" + i + ";sees=5;");
+        }
+        DUES.due("pays(0)", many.pays(0), 108);
+        by("nothing stays: the SEED (0)");
+        SchoolLosing x = new SchoolLosing();
+        String game = "end a 0;end b 1;end c 2;turn t 0 a 1 b 1 c 1;man m 0 0;man n 0 0;";
+        Texts.read(x, game + "seed 9999;");
+        Texts.read(x, game + "seed 5;");
+        for (int i = 0; i < 2; i++) {
+            Texts.read(x, game);
+            for (int step = 0; step < 5; step++) {
+                int ahead = x.man(0, 4);
+                x.begin(3, 0, 1, 0, 0);
+                x.steps(1);
+                DUES.due("step " + step, x.man(0, 4) - ahead, Model.lot(3, 0, 32 * step + 1));
+            }
+        }
+    }
+
+    private static void nothingStaysOfFaultyOnes() {
+        by("A text with a FAULT changes nothing but the tape: nor the texts behind it");
+        String[] faulty = {"pays=1+?", "pays=1+2*(3-(4/?", "pays=if 1<2 then 3 ?", "end a 1;end b 2;man c 1 1;?",
+            "seed 5;sees=1;end a 10;", Texts.FULL + "?", CHAIN + "turn g 0 f 1;", "lesson a 1;lesson b 1 a a;"};
+        for (String text : faulty) {
+            for (int times = 1; times <= 2; times++) {
+                SchoolLosing x = new SchoolLosing();
+                for (int i = 0; i < times; i++) {
+                    DUES.not("read() of " + text, Texts.read(x, text), 0);
+                }
+                dueAsNew(x, "end a 1;end b 2;turn c 0 a 1 b 2;man d 1 1;lesson e 5;court f 1;pays=2*(3+4)-margin;");
+            }
+        }
+        by("4 NAME: no such POSITION told ahead, but in the text ahead");
+        SchoolLosing x = new SchoolLosing();
+        Texts.read(x, "end a 1;end b 1;end c 1;lesson d 1;lesson e 1;");
+        DUES.due("read()", Texts.read(x, "end a 1;turn t 0 a 1 b 1;"), NAME);
+        DUES.due("place()", x.place(), 21);
+        DUES.due("read()", Texts.read(x, "end a 1;end b 1;turn t 0 c 1;"), NAME);
+        DUES.due("read()", Texts.read(x, "end a 1;end b 1;end c 1;lesson d 1 e;"), NAME);
     }
 }

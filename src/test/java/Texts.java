@@ -47,6 +47,30 @@ final class Texts {
         return picture.append(goesOn(school)).toString();
     }
 
+    /** All that a text tells, as calls on an object that nothing was done to since show it. */
+    static String toldBy(SchoolLosing school) {
+        StringBuilder picture = new StringBuilder("count");
+        for (int what = 0; what <= 10; what++) {
+            picture.append(' ').append(school.count(what));
+        }
+        for (int position = 0; position < school.count(0); position++) {
+            picture.append(" position");
+            for (int what = 0; what < 4; what++) {
+                picture.append(' ').append(school.position(position, what));
+            }
+            for (int move = 0; move < school.position(position, 2); move++) {
+                picture.append(' ').append(school.move(position, move, false)).append(' ')
+                    .append(school.move(position, move, true)).append(' ').append(school.seen(position, move, 0, 0, 0));
+            }
+        }
+        picture.append(goesOn(school)).append(" else");
+        for (int i = -1; i < 6; i++) {
+            picture.append(' ').append(school.order(i)).append(' ').append(school.courts(i)).append(' ')
+                .append(school.rests(i)).append(' ').append(school.pays(i)).append(' ').append(school.less(0, i, true));
+        }
+        return picture.append(' ').append(school.set()).toString();
+    }
+
     /** All that goes on: what undo(), hold() and restore() are about. */
     static String goesOn(SchoolLosing school) {
         StringBuilder picture = new StringBuilder(" steps " + school.count(5) + " over " + school.count(6) + " game");
