@@ -55,8 +55,8 @@ public final class SchoolLosing {
     private static final int FAILED = 4;
     private static final int GAMES = 5;
 
-    private final Tokens tokens = new Tokens();
-    private final Reader reader = new Reader(tokens);
+    private final Reader reader = new Reader();
+    private final Tokens tokens = reader.tokens;
     private final Going going = new Going();
     private final Wants byWant = new Wants();
     private final Chances chances = new Chances();
@@ -835,7 +835,7 @@ public final class SchoolLosing {
         private static final int OF_COURT = 3;
         private static final int OF_DIE = 4;
 
-        private final Tokens tokens;
+        final Tokens tokens = new Tokens();
         private final long[] names = new long[NAMES];
         private final int[] sorts = new int[NAMES];
         private final int[] numbers = new int[NAMES];
@@ -848,10 +848,6 @@ public final class SchoolLosing {
         int faultPlace = NONE;
         private int laterFault;
         private int laterPlace;
-
-        Reader(Tokens tokens) {
-            this.tokens = tokens;
-        }
 
         int readAll(Text into) {
             text = into;

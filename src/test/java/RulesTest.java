@@ -76,6 +76,10 @@ public final class RulesTest {
         say(classes.size() <= 11, "too many classes");
         for (Class<?> inside : classes) {
             say(Modifier.isStatic(inside.getModifiers()), inside + " is not static");
+            for (Constructor<?> constructor : inside.getDeclaredConstructors()) {
+                // rule 12: a constructor hands out nothing of the object that it makes
+                say(constructor.getParameterCount() == 0, constructor + " is handed something");
+            }
             for (Method method : inside.getDeclaredMethods()) {
                 say(!names.contains(method.getName()), method + " bears the name of a public one");
             }
